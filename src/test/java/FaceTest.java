@@ -30,8 +30,9 @@ public final class FaceTest {
         for (int r = 0; r <= 10; r++) {
             Check.same("get(" + r + ") of a new object", x.get(r), 0);
         }
+        CompiledProgram other = new CompiledProgram();
         for (int k = 0; k < Check.MEMORY_BYTES; k += 8) {
-            Check.same("word of a new object", x.word(Check.MEMORY + k), 0);
+            Check.same("word of a new object", other.word(Check.MEMORY + k), 0);
         }
         Check.fails("run(1) of a new object", IllegalStateException.class, () -> x.run(1));
         Check.fails("end(1) of a new object", IllegalArgumentException.class, () -> x.end(1));
