@@ -12,7 +12,11 @@ final class Check {
         0, 1, 2, 3, 7, 31, 32, 33, 63, 64, 65, 255, 65536, -1, -2, -7, Integer.MAX_VALUE, Integer.MIN_VALUE, 0x12345678
     };
 
+    private static final int PRINTED = 20;
+
     private static int wrong = 0;
+    private static int wrongOfSentence = 0;
+    private static String sentence = "";
 
     private Check() {
     }
@@ -21,12 +25,24 @@ final class Check {
         void make();
     }
 
+    /** The words of the document that are tested from here on: they stand before each wrong answer. */
+    static void sentence(String words) {
+        sentence = "\"" + words + "\": ";
+        wrongOfSentence = 0;
+    }
+
     static void same(String what, long got, long due) {
         if (got != due) {
-            wrong++;
-            if (wrong <= 20) {
-                System.out.println(what + " answered " + got + ", due is " + due);
-            }
+            isWrong(what + " answered " + got + ", due is " + due);
+        }
+    }
+
+    /** A test of many inputs may find thousands wrong: the first ones tell enough. */
+    private static void isWrong(String what) {
+        wrong++;
+        wrongOfSentence++;
+        if (wrongOfSentence <= PRINTED) {
+            System.out.println(sentence + what);
         }
     }
 
@@ -38,8 +54,7 @@ final class Check {
             got = e.getClass();
         }
         if (got != due) {
-            wrong++;
-            System.out.println(what + " threw " + got + ", due is " + due);
+            isWrong(what + " threw " + got + ", due is " + due);
         }
     }
 
@@ -93,6 +108,16 @@ final class Check {
             same("load() of a right program, first place " + Long.toHexString(places[0]), wrongPlace, CompiledProgram.NONE);
         }
         return x;
+    }
+
+    /** That the tape has n bytes, told without changing it: one more is asked for first, as that must be refused. */
+    static void hasTyped(String what, CompiledProgram x, int n) {
+        fails(what + ": end(" + (n + 1) + ")", IllegalArgumentException.class, () -> x.end(n + 1));
+        try {
+            x.end(n);
+        } catch (IllegalArgumentException e) {
+            isWrong(what + ": the tape has not " + n + " bytes");
+        }
     }
 
     static void ran(String what, CompiledProgram x, int fuel, int ending, int place, int steps) {
