@@ -25,10 +25,17 @@ final class Check {
         void make();
     }
 
-    /** The words of the document that are tested from here on: they stand before each wrong answer. */
-    static void sentence(String words) {
+    /** Tests what these words of the document say: they stand before each answer that is wrong. */
+    static void sentence(String words, Call test) {
         sentence = "\"" + words + "\": ";
         wrongOfSentence = 0;
+        try {
+            test.make();
+        } catch (RuntimeException e) {
+            // So that the other sentences are tested all the same.
+            isWrong("a call threw " + e + ", none was due");
+        }
+        sentence = "";
     }
 
     static void same(String what, long got, long due) {

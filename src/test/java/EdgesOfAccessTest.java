@@ -8,21 +8,27 @@ public final class EdgesOfAccessTest {
     private static final long OLD = 0xf1e2d3c4b5a69788L;
 
     public static void main(String[] args) {
-        sizes();
-        readsWithoutSign();
-        readsWithSign();
-        writesOfTheImmediate();
-        writesOfARegister();
-        anyOffset();
-        sumsAndBitsOfOld();
-        swap();
-        swapIfSame();
-        sameAsOneLess();
-        sourceGetsOld();
-        registerZeroGetsOld();
-        multiplesOfZ();
-        bytesNotInMemory();
-        trapsChangeNothing();
+        Check.sentence("SIZES z by bits 3 and 4 of the code: 0: 4 bytes, 1: 2, 2: 1, 3: 8", EdgesOfAccessTest::sizes);
+        Check.sentence("CLASS 1, mode 3: register d gets the number of z bytes at y + o, without sign (8 bytes: as they are)",
+            EdgesOfAccessTest::readsWithoutSign);
+        Check.sentence("mode 4, z below 8: with sign", EdgesOfAccessTest::readsWithSign);
+        Check.sentence("CLASS 2: z bytes at x + o become the lowest of i (with sign)",
+            EdgesOfAccessTest::writesOfTheImmediate);
+        Check.sentence("CLASS 3, mode 3: z bytes at x + o become the lowest of register s",
+            EdgesOfAccessTest::writesOfARegister);
+        Check.sentence("Any offset.", EdgesOfAccessTest::anyOffset);
+        Check.sentence("OLD becomes by i: 0: OLD + y; 64: OLD | y; 80: OLD & y; 160: OLD ^ y",
+            EdgesOfAccessTest::sumsAndBitsOfOld);
+        Check.sentence("225: y", EdgesOfAccessTest::swap);
+        Check.sentence("241: y if OLD is the number of the lowest z bytes of register 0, else it stays",
+            EdgesOfAccessTest::swapIfSame);
+        Check.sentence("With i 1, 65, 81, 161 the same as one less", EdgesOfAccessTest::sameAsOneLess);
+        Check.sentence("then, and for 225, register s gets OLD; without sign", EdgesOfAccessTest::sourceGetsOld);
+        Check.sentence("for 241 register 0 does; without sign", EdgesOfAccessTest::registerZeroGetsOld);
+        Check.sentence("The address must be a multiple of z.", EdgesOfAccessTest::multiplesOfZ);
+        Check.sentence("An instruction that would read or write a byte that is not in MEMORY ends it with TRAP",
+            EdgesOfAccessTest::bytesNotInMemory);
+        Check.sentence("is no step, changes nothing", EdgesOfAccessTest::trapsChangeNothing);
         Check.finish();
     }
 
@@ -31,7 +37,6 @@ public final class EdgesOfAccessTest {
     }
 
     private static void sizes() {
-        Check.sentence("SIZES z by bits 3 and 4 of the code: 0: 4 bytes, 1: 2, 2: 1, 3: 8");
         for (int k = 0; k < 4; k++) {
             CompiledProgram x = Check.with(place(WRITE, k, 1, 2, 0, 0), Check.EXIT);
             x.put(FIRST + 8, 0);
@@ -54,7 +59,6 @@ public final class EdgesOfAccessTest {
     }
 
     private static void readsWithoutSign() {
-        Check.sentence("CLASS 1, mode 3: register d gets the number of z bytes at y + o, without sign (8 bytes: as they are)");
         read(READ, 0, -1, 0xffffffffL);
         read(READ, 0, 0x80000000L, 0x80000000L);
         read(READ, 1, -1, 0xffff);
@@ -66,7 +70,6 @@ public final class EdgesOfAccessTest {
     }
 
     private static void readsWithSign() {
-        Check.sentence("mode 4, z below 8: with sign");
         read(READ_WITH_SIGN, 0, 0x80000000L, Integer.MIN_VALUE);
         read(READ_WITH_SIGN, 0, 0x17fffffffL, Integer.MAX_VALUE);
         read(READ_WITH_SIGN, 1, 0x8000, -32768);
@@ -77,7 +80,6 @@ public final class EdgesOfAccessTest {
     }
 
     private static void writesOfTheImmediate() {
-        Check.sentence("CLASS 2: z bytes at x + o become the lowest of i (with sign)");
         long[] due = {0xf1e2d3c480000000L, 0xf1e2d3c4b5a60000L, 0xf1e2d3c4b5a69700L, Integer.MIN_VALUE};
         long[] dueOfMinusOne = {0xf1e2d3c4ffffffffL, 0xf1e2d3c4b5a6ffffL, 0xf1e2d3c4b5a697ffL, -1};
         for (int k = 0; k < 4; k++) {
@@ -99,7 +101,6 @@ public final class EdgesOfAccessTest {
     }
 
     private static void writesOfARegister() {
-        Check.sentence("CLASS 3, mode 3: z bytes at x + o become the lowest of register s");
         written("4 bytes", place(WRITE, 0, 10, 9, 0, 0), 0xf1e2d3c485868788L);
         written("2 bytes", place(WRITE, 1, 10, 9, 0, 0), 0xf1e2d3c4b5a68788L);
         written("1 byte", place(WRITE, 2, 10, 9, 0, 0), 0xf1e2d3c4b5a69788L);
@@ -108,7 +109,6 @@ public final class EdgesOfAccessTest {
     }
 
     private static void anyOffset() {
-        Check.sentence("Any offset.");
         for (int o : new int[] {-32768, -1, 1, 7, 32767}) {
             CompiledProgram x = Check.with(place(WRITE_NUMBER, 3, 1, 0, o, 5), place(READ, 3, 2, 1, o, 0),
                 place(WRITE, 3, 1, 1, o, 0), place(READ_WITH_SIGN, 1, 3, 1, o, 0), place(EXCHANGE, 3, 1, 4, o, 225), Check.EXIT);
@@ -144,7 +144,6 @@ public final class EdgesOfAccessTest {
     }
 
     private static void sumsAndBitsOfOld() {
-        Check.sentence("OLD becomes by i: 0: OLD + y; 64: OLD | y; 80: OLD & y; 160: OLD ^ y");
         becomes(3, 0, Long.MAX_VALUE, 1, Long.MIN_VALUE);
         becomes(3, 0, -1, 1, 0);
         becomes(0, 0, 0x11223344ffffffffL, 1, 0x1122334400000000L);
@@ -158,18 +157,17 @@ public final class EdgesOfAccessTest {
     }
 
     private static void swap() {
-        Check.sentence("225: y");
         Check.same("8 bytes", exchanged(3, 225, OLD, Long.MIN_VALUE, 0).word(FIRST), Long.MIN_VALUE);
         Check.same("4 bytes", exchanged(0, 225, OLD, -1, 0).word(FIRST), 0xf1e2d3c4ffffffffL);
     }
 
     private static void swapIfSame() {
-        Check.sentence("241: y if OLD is the number of the lowest z bytes of register 0, else it stays");
         Check.same("8 bytes, same", exchanged(3, 241, OLD, 5, OLD).word(FIRST), 5);
         Check.same("8 bytes, only the lowest 4 same", exchanged(3, 241, OLD, 5, 0xb5a69788L).word(FIRST), OLD);
         Check.same("8 bytes, not same", exchanged(3, 241, OLD, 5, OLD + 1).word(FIRST), OLD);
         Check.same("4 bytes, same", exchanged(0, 241, OLD, 5, 0xb5a69788L).word(FIRST), 0xf1e2d3c400000005L);
-        Check.same("4 bytes, higher ones of register 0 not same", exchanged(0, 241, OLD, 5, (int) OLD).word(FIRST), 0xf1e2d3c400000005L);
+        Check.same("4 bytes, higher ones of register 0 not same", exchanged(0, 241, OLD, 5, (int) OLD).word(FIRST),
+            0xf1e2d3c400000005L);
         Check.same("4 bytes, not same", exchanged(0, 241, OLD, 5, 0xf1e2d3c400000000L).word(FIRST), OLD);
         for (int k : new int[] {0, 3}) {
             Check.same("register s", exchanged(k, 241, OLD, 5, OLD).get(2), 5);
@@ -178,7 +176,6 @@ public final class EdgesOfAccessTest {
     }
 
     private static void sameAsOneLess() {
-        Check.sentence("With i 1, 65, 81, 161 the same as one less");
         for (int i : new int[] {1, 65, 81, 161}) {
             for (int k : new int[] {0, 3}) {
                 long y = 0x7a5b3c1d0f1e2d3cL;
@@ -189,7 +186,6 @@ public final class EdgesOfAccessTest {
     }
 
     private static void sourceGetsOld() {
-        Check.sentence("then, and for 225, register s gets OLD; without sign");
         for (int i : EXCHANGES) {
             boolean gets = i == 1 || i == 65 || i == 81 || i == 161 || i == 225;
             Check.same("8 bytes, i " + i, exchanged(3, i, -1, 5, 0).get(2), gets ? -1 : 5);
@@ -204,7 +200,6 @@ public final class EdgesOfAccessTest {
     }
 
     private static void registerZeroGetsOld() {
-        Check.sentence("for 241 register 0 does; without sign");
         for (int i : EXCHANGES) {
             Check.same("8 bytes, i " + i, exchanged(3, i, -1, 5, 9).get(0), i == 241 ? -1 : 9);
             Check.same("4 bytes, i " + i, exchanged(0, i, -1, 5, 9).get(0), i == 241 ? 0xffffffffL : 9);
@@ -216,11 +211,11 @@ public final class EdgesOfAccessTest {
         CompiledProgram x = Check.with(w, Check.EXIT);
         x.set(1, address);
         x.set(2, 1);
-        Check.ran("place " + Long.toHexString(w) + " at " + address, x, 9, ending, ending == EXIT ? 1 : 0, ending == EXIT ? 2 : 0);
+        int steps = ending == EXIT ? 2 : 0;
+        Check.ran("place " + Long.toHexString(w) + " at " + address, x, 9, ending, steps / 2, steps);
     }
 
     private static void multiplesOfZ() {
-        Check.sentence("The address must be a multiple of z.");
         for (int i : EXCHANGES) {
             for (int from = 0; from <= 16; from++) {
                 at(place(EXCHANGE, 0, 1, 2, 0, i), FIRST + from, from % 4 == 0 ? EXIT : TRAP);
@@ -237,7 +232,6 @@ public final class EdgesOfAccessTest {
     }
 
     private static void bytesNotInMemory() {
-        Check.sentence("An instruction that would read or write a byte that is not in MEMORY ends it with TRAP");
         for (int k = 0; k < 4; k++) {
             edges(place(READ, k, 2, 1, 0, 0), SIZES[k], 1);
             edges(place(WRITE_NUMBER, k, 1, 0, 0, 1), SIZES[k], 1);
@@ -267,7 +261,6 @@ public final class EdgesOfAccessTest {
     }
 
     private static void trapsChangeNothing() {
-        Check.sentence("is no step, changes nothing");
         for (int k = 0; k < 4; k++) {
             changesNothing(place(READ, k, 2, 1, 0, 0), END - SIZES[k] + 1);
             changesNothing(place(WRITE_NUMBER, k, 1, 0, 0, 1), END - SIZES[k] + 1);

@@ -5,30 +5,38 @@ public final class EdgesOfComputingTest {
     private static final long ALL_INT = 0xffffffffL, TOP_INT = 0x80000000L, ABOVE_INT = 0x1234567800000000L;
 
     public static void main(String[] args) {
-        numbersWrap();
-        unsignedOf64Bits();
-        registerOrImmediate();
-        sixBitsOfShifts();
-        negation();
-        withOffset1WithSign();
-        quotientsTowardZero();
-        restsWithTheSignOfX();
-        leastByMinusOne();
-        quotientByZero();
-        restByZero();
-        movesWithSign();
-        bytesTurnedRound();
-        intsOfClass4();
-        unsignedOf32Bits();
-        divisionsOfClass4();
-        fiveBitsOfShifts();
-        movesOfClass4();
-        zerosAbove();
-        cutOrTurnedInClass4();
-        numberOfTwoPlaces();
-        numberOfAMap();
-        theCall();
-        registersOfTheCall();
+        Check.sentence("Numbers wrap.", EdgesOfComputingTest::numbersWrap);
+        Check.sentence("UNSIGNED: taken as 0 .. 2^64 - 1", EdgesOfComputingTest::unsignedOf64Bits);
+        Check.sentence("y what register s holds if bit 3 of the code is 1, else i",
+            EdgesOfComputingTest::registerOrImmediate);
+        Check.sentence("Of y only the lowest six bits count for 6, 7, 12", EdgesOfComputingTest::sixBitsOfShifts);
+        Check.sentence("8: -x", EdgesOfComputingTest::negation);
+        Check.sentence("3 and 9 are unsigned, or, with o 1, with sign", EdgesOfComputingTest::withOffset1WithSign);
+        Check.sentence("quotients cut off toward 0", EdgesOfComputingTest::quotientsTowardZero);
+        Check.sentence("rests with the sign of x", EdgesOfComputingTest::restsWithTheSignOfX);
+        Check.sentence("the least number by -1 is itself, its rest 0", EdgesOfComputingTest::leastByMinusOne);
+        Check.sentence("by 0 the quotient is 0", EdgesOfComputingTest::quotientByZero);
+        Check.sentence("by 0 the rest is x", EdgesOfComputingTest::restByZero);
+        Check.sentence("11 with o 8, 16 or 32: the lowest o bits of y, the highest of which is their sign",
+            EdgesOfComputingTest::movesWithSign);
+        Check.sentence("13, i 16, 32 or 64: the lowest i bits of x with their bytes turned round",
+            EdgesOfComputingTest::bytesTurnedRound);
+        Check.sentence("CLASS 4: the same with the lowest 32 bits of x and y as ints", EdgesOfComputingTest::intsOfClass4);
+        Check.sentence("UNSIGNED (of 32 bits: 2^32 - 1)", EdgesOfComputingTest::unsignedOf32Bits);
+        Check.sentence("CLASS 4: the least number by -1 is itself, its rest 0; by 0 the quotient is 0, the rest x",
+            EdgesOfComputingTest::divisionsOfClass4);
+        Check.sentence("CLASS 4: five bits of y for shifts", EdgesOfComputingTest::fiveBitsOfShifts);
+        Check.sentence("CLASS 4: 11 with o 8 or 16 alone", EdgesOfComputingTest::movesOfClass4);
+        Check.sentence("register d gets the lowest 32 bits of what comes, above them 0", EdgesOfComputingTest::zerosAbove);
+        Check.sentence("CLASS 4, 13: all i of them are kept, here x is all of register d",
+            EdgesOfComputingTest::cutOrTurnedInClass4);
+        Check.sentence("register d gets the number whose lowest 32 bits are i, and whose highest are the i of the second place",
+            EdgesOfComputingTest::numberOfTwoPlaces);
+        Check.sentence("or it is 1 (the number of a MAP): then i is not below 0, and that of the second place is 0",
+            EdgesOfComputingTest::numberOfAMap);
+        Check.sentence("register 0 becomes 31 times (31 times (31 times (31 times (31 times i, + r1) + r2) + r3) + r4) + r5",
+            EdgesOfComputingTest::theCall);
+        Check.sentence("registers 1 to 5 become 0", EdgesOfComputingTest::registersOfTheCall);
         Check.finish();
     }
 
@@ -66,7 +74,6 @@ public final class EdgesOfComputingTest {
     }
 
     private static void numbersWrap() {
-        Check.sentence("Numbers wrap.");
         wide("the greatest + 1", 0, GREATEST, 1, LEAST);
         wide("the least + the least", 0, LEAST, LEAST, 0);
         wide("the least - 1", 1, LEAST, 1, GREATEST);
@@ -79,7 +86,6 @@ public final class EdgesOfComputingTest {
     }
 
     private static void unsignedOf64Bits() {
-        Check.sentence("UNSIGNED: taken as 0 .. 2^64 - 1");
         wide("2^64 - 1 by 2", 3, -1, 2, GREATEST);
         wide("2^64 - 1 by 1", 3, -1, 1, -1);
         wide("2^64 - 1 by itself", 3, -1, -1, 1);
@@ -95,7 +101,6 @@ public final class EdgesOfComputingTest {
     }
 
     private static void registerOrImmediate() {
-        Check.sentence("y what register s holds if bit 3 of the code is 1, else i");
         only("x + the least i", 0x07, Integer.MIN_VALUE, 0, LEAST_INT);
         only("x + the greatest i", 0x07, Integer.MAX_VALUE, 0, Integer.MAX_VALUE);
         only("x | -1", 0x47, -1, 5, -1);
@@ -108,7 +113,6 @@ public final class EdgesOfComputingTest {
     }
 
     private static void sixBitsOfShifts() {
-        Check.sentence("Of y only the lowest six bits count for 6, 7, 12");
         long[] counts = {0, 63, 64, 65, 127, 128, -1, -64, LEAST, GREATEST, 1L << 32};
         for (long y : counts) {
             int bits = (int) (y & 63);
@@ -124,7 +128,6 @@ public final class EdgesOfComputingTest {
     }
 
     private static void negation() {
-        Check.sentence("8: -x");
         only("-the least", 0x87, 0, LEAST, LEAST);
         only("-the greatest", 0x87, 0, GREATEST, LEAST + 1);
         only("-0", 0x87, 0, 0, 0);
@@ -135,7 +138,6 @@ public final class EdgesOfComputingTest {
     }
 
     private static void withOffset1WithSign() {
-        Check.sentence("3 and 9 are unsigned, or, with o 1, with sign");
         wide("2^64 - 6 by 3", 3, -6, 3, 6148914691236517203L);
         wideWithSign("-6 / 3", 3, -6, 3, -2);
         wide("the rest of 2^64 - 6 by 4", 9, -6, 4, 2);
@@ -147,7 +149,6 @@ public final class EdgesOfComputingTest {
     }
 
     private static void quotientsTowardZero() {
-        Check.sentence("quotients cut off toward 0");
         wideWithSign("7 / 2", 3, 7, 2, 3);
         wideWithSign("-7 / 2", 3, -7, 2, -3);
         wideWithSign("7 / -2", 3, 7, -2, -3);
@@ -158,7 +159,6 @@ public final class EdgesOfComputingTest {
     }
 
     private static void restsWithTheSignOfX() {
-        Check.sentence("rests with the sign of x");
         wideWithSign("7 by 2", 9, 7, 2, 1);
         wideWithSign("-7 by 2", 9, -7, 2, -1);
         wideWithSign("7 by -2", 9, 7, -2, 1);
@@ -169,7 +169,6 @@ public final class EdgesOfComputingTest {
     }
 
     private static void leastByMinusOne() {
-        Check.sentence("the least number by -1 is itself, its rest 0");
         wideWithSign("the least / -1", 3, LEAST, -1, LEAST);
         wideWithSign("its rest", 9, LEAST, -1, 0);
         wideWithSign("the next one / -1", 3, LEAST + 1, -1, GREATEST);
@@ -182,7 +181,6 @@ public final class EdgesOfComputingTest {
     }
 
     private static void quotientByZero() {
-        Check.sentence("by 0 the quotient is 0");
         for (long x : new long[] {0, 1, -1, 7, LEAST, GREATEST}) {
             wide(x + " by 0", 3, x, 0, 0);
             wideWithSign(x + " by 0 with sign", 3, x, 0, 0);
@@ -191,7 +189,6 @@ public final class EdgesOfComputingTest {
     }
 
     private static void restByZero() {
-        Check.sentence("by 0 the rest is x");
         for (long x : new long[] {0, 1, -1, 7, LEAST, GREATEST}) {
             wide(x + " by 0", 9, x, 0, x);
             wideWithSign(x + " by 0 with sign", 9, x, 0, x);
@@ -204,7 +201,6 @@ public final class EdgesOfComputingTest {
     }
 
     private static void movesWithSign() {
-        Check.sentence("11 with o 8, 16 or 32: the lowest o bits of y, the highest of which is their sign");
         moved(7, 8, 0x7f, 127);
         moved(7, 8, 0x80, -128);
         moved(7, 8, 0x17f, 127);
@@ -220,7 +216,6 @@ public final class EdgesOfComputingTest {
     }
 
     private static void bytesTurnedRound() {
-        Check.sentence("13, i 16, 32 or 64: the lowest i bits of x with their bytes turned round");
         long x = 0x8182838485868788L;
         only("16 bits", 0xd7, 16, x, 0x8887);
         only("32 bits", 0xd7, 32, x, 0x88878685L);
@@ -228,7 +223,6 @@ public final class EdgesOfComputingTest {
     }
 
     private static void intsOfClass4() {
-        Check.sentence("CLASS 4: the same with the lowest 32 bits of x and y as ints");
         narrow("x + y, higher bits not counting", 0, ABOVE_INT | 3, ABOVE_INT | 4, 7);
         narrow("the greatest int + 1", 0, Integer.MAX_VALUE, 1, TOP_INT);
         narrow("2^32 - 1 + 1", 0, ALL_INT, 1, 0);
@@ -243,19 +237,17 @@ public final class EdgesOfComputingTest {
     }
 
     private static void unsignedOf32Bits() {
-        Check.sentence("UNSIGNED (of 32 bits: 2^32 - 1)");
         narrow("2^32 - 1 by 2", 3, -1, 2, Integer.MAX_VALUE);
         narrow("2^32 - 1 by itself", 3, ALL_INT, -1, 1);
         narrow("2^32 - 2 by 2^32 - 1", 3, -2, -1, 0);
         narrow("2^31 by 2^31 - 1", 3, TOP_INT, Integer.MAX_VALUE, 1);
-        narrow("the rest of 2^32 - 1 by 10", 9, -1, 10, 5);
+        narrow("the rest of 2^32 - 1 by 7", 9, -1, 7, 3);
         narrow("the rest of 2^32 - 1 by 2^31", 9, -1, TOP_INT, Integer.MAX_VALUE);
         narrow("the rest of 2^32 - 2 by 2^32 - 1", 9, -2, -1, 0xfffffffeL);
         only("2^32 - 1 by i -1", 0x34, -1, ALL_INT, 1);
     }
 
     private static void divisionsOfClass4() {
-        Check.sentence("CLASS 4: the least number by -1 is itself, its rest 0; by 0 the quotient is 0, the rest x");
         narrowWithSign("the least int / -1", 3, TOP_INT, ALL_INT, TOP_INT);
         narrowWithSign("its rest", 9, TOP_INT, ALL_INT, 0);
         narrowWithSign("-7 / 2", 3, -7, 2, 0xfffffffdL);
@@ -271,7 +263,6 @@ public final class EdgesOfComputingTest {
     }
 
     private static void fiveBitsOfShifts() {
-        Check.sentence("CLASS 4: five bits of y for shifts");
         for (long y : new long[] {0, 31, 32, 33, 63, 64, -1, -32, 1L << 32, LEAST}) {
             int bits = (int) (y & 31);
             narrow("-5 << " + y, 6, -5, y, (-5L << bits) & ALL_INT);
@@ -283,7 +274,6 @@ public final class EdgesOfComputingTest {
     }
 
     private static void movesOfClass4() {
-        Check.sentence("CLASS 4: 11 with o 8 or 16 alone");
         moved(4, 8, 0x7f, 127);
         moved(4, 8, 0x80, 0xffffff80L);
         moved(4, 8, -129, 127);
@@ -293,7 +283,6 @@ public final class EdgesOfComputingTest {
     }
 
     private static void zerosAbove() {
-        Check.sentence("register d gets the lowest 32 bits of what comes, above them 0");
         long x = -2, y = -1;
         long[] due = {0xfffffffdL, ALL_INT, 2, 0, ALL_INT, 0xfffffffeL, 0, 1, 0, 0xfffffffeL, 1, ALL_INT, ALL_INT};
         for (int n = 0; n < due.length; n++) {
@@ -307,7 +296,6 @@ public final class EdgesOfComputingTest {
     }
 
     private static void cutOrTurnedInClass4() {
-        Check.sentence("CLASS 4, 13: all i of them are kept, here x is all of register d");
         long x = 0x8182838485868788L;
         only("16 bits", 0xd4, 16, x, 0x8788);
         only("32 bits", 0xd4, 32, x, 0x85868788L);
@@ -327,7 +315,6 @@ public final class EdgesOfComputingTest {
     }
 
     private static void numberOfTwoPlaces() {
-        Check.sentence("register d gets the number whose lowest 32 bits are i, and whose highest are the i of the second place");
         taken(0, -1, 0, ALL_INT);
         taken(0, 0, -1, -1L << 32);
         taken(0, -1, -1, -1);
@@ -339,7 +326,6 @@ public final class EdgesOfComputingTest {
     }
 
     private static void numberOfAMap() {
-        Check.sentence("or it is 1 (the number of a MAP): then i is not below 0, and that of the second place is 0");
         taken(1, 0, 0, 0);
         taken(1, Integer.MAX_VALUE, 0, Integer.MAX_VALUE);
     }
@@ -355,7 +341,6 @@ public final class EdgesOfComputingTest {
     }
 
     private static void theCall() {
-        Check.sentence("register 0 becomes 31 times (31 times (31 times (31 times (31 times i, + r1) + r2) + r3) + r4) + r5");
         called(0, new long[] {0, 0, 0, 0, 0}, 0);
         called(1, new long[] {0, 0, 0, 0, 0}, 28629151);
         called(0, new long[] {1, 0, 0, 0, 0}, 923521);
@@ -371,7 +356,6 @@ public final class EdgesOfComputingTest {
     }
 
     private static void registersOfTheCall() {
-        Check.sentence("registers 1 to 5 become 0");
         CompiledProgram p = Check.with(Check.place(0x85, 0, 0, 0, 0), Check.EXIT);
         for (int r = 0; r <= 10; r++) {
             p.set(r, -1);

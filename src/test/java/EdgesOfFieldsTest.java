@@ -7,30 +7,34 @@ public final class EdgesOfFieldsTest {
     private static final int[] JUMPING = {1, 2, 3, 4, 5, 6, 7, 10, 11, 12, 13};
 
     public static void main(String[] args) {
-        offsetIsZero();
-        immediateIsZeroWithARegister();
-        sourceIsZeroWithAnImmediate();
-        operationsOfClass7And4();
-        negation();
-        divisions();
-        movesWithAnOffset();
-        turning();
-        movesOfClass4();
-        cuttingInClass4();
-        jumpByOffset();
-        call();
-        exit();
-        operationsOfClass5();
-        operationsOfClass6();
-        jumpByImmediate();
-        modes();
-        reads();
-        readsWithSign();
-        writesOfTheImmediate();
-        writesOfARegister();
-        exchanges();
-        firstOfTwo();
-        map();
+        Check.sentence("Where it isn't said otherwise, o is 0", EdgesOfFieldsTest::offsetIsZero);
+        Check.sentence("y what register s holds (then i is 0) if bit 3 of the code is 1",
+            EdgesOfFieldsTest::immediateIsZeroWithARegister);
+        Check.sentence("else i (then s is 0)", EdgesOfFieldsTest::sourceIsZeroWithAnImmediate);
+        Check.sentence("CLASS 7 and 4: by n, the highest four bits of the code: 0 .. 13",
+            EdgesOfFieldsTest::operationsOfClass7And4);
+        Check.sentence("8 (bit 3 and i are 0)", EdgesOfFieldsTest::negation);
+        Check.sentence("3 and 9, with o 0 or 1", EdgesOfFieldsTest::divisions);
+        Check.sentence("11, bit 3 being 1, with o 8, 16 or 32", EdgesOfFieldsTest::movesWithAnOffset);
+        Check.sentence("13, bit 3 being 0, i 16, 32 or 64, s 0", EdgesOfFieldsTest::turning);
+        Check.sentence("CLASS 4: 11 with o 8 or 16 alone (other offsets are wrong)", EdgesOfFieldsTest::movesOfClass4);
+        Check.sentence("CLASS 4: 13, s 0, i 16, 32 or 64", EdgesOfFieldsTest::cuttingInClass4);
+        Check.sentence("CLASS 5: 0 (code 5; d, s, i are 0)", EdgesOfFieldsTest::jumpByOffset);
+        Check.sentence("8 (code 133; d, s are 0): a CALL of i", EdgesOfFieldsTest::call);
+        Check.sentence("9 (code 149; d, s, i are 0): the EXIT", EdgesOfFieldsTest::exit);
+        Check.sentence("CLASS 5, by n: 1 to 7 and 10 to 13", EdgesOfFieldsTest::operationsOfClass5);
+        Check.sentence("CLASS 6: likewise, 1 to 7 and 10 to 13", EdgesOfFieldsTest::operationsOfClass6);
+        Check.sentence("CLASS 6: 0 (code 6; d, s, o are 0)", EdgesOfFieldsTest::jumpByImmediate);
+        Check.sentence("MODES by bits 5 to 7: 3 and 4 of class 1, 3 of class 2, 3 and 6 of class 3",
+            EdgesOfFieldsTest::modes);
+        Check.sentence("CLASS 1, i 0, mode 3", EdgesOfFieldsTest::reads);
+        Check.sentence("mode 4, z below 8", EdgesOfFieldsTest::readsWithSign);
+        Check.sentence("CLASS 2, s 0, mode 3", EdgesOfFieldsTest::writesOfTheImmediate);
+        Check.sentence("CLASS 3, mode 3, i 0", EdgesOfFieldsTest::writesOfARegister);
+        Check.sentence("CLASS 3, mode 6, z 4 or 8: by i: 0, 64, 80, 160, 225, 241, 1, 65, 81, 161",
+            EdgesOfFieldsTest::exchanges);
+        Check.sentence("CLASS 0, code 24", EdgesOfFieldsTest::firstOfTwo);
+        Check.sentence("s is 0; or it is 1 (the number of a MAP): then i is not below 0", EdgesOfFieldsTest::map);
         Check.finish();
     }
 
@@ -62,7 +66,6 @@ public final class EdgesOfFieldsTest {
     }
 
     private static void offsetIsZero() {
-        Check.sentence("Where it isn't said otherwise, o is 0");
         for (int kind : new int[] {7, 4}) {
             for (int n : COMPUTING) {
                 right(n << 4 | kind, 1, 0, 0, 5);
@@ -86,7 +89,6 @@ public final class EdgesOfFieldsTest {
     }
 
     private static void immediateIsZeroWithARegister() {
-        Check.sentence("y what register s holds (then i is 0) if bit 3 of the code is 1");
         for (int i : IMMEDIATES_NOT_ZERO) {
             for (int n : COMPUTING) {
                 wrong(n << 4 | 15, 1, 2, 0, i);
@@ -104,7 +106,6 @@ public final class EdgesOfFieldsTest {
     }
 
     private static void sourceIsZeroWithAnImmediate() {
-        Check.sentence("else i (then s is 0)");
         for (int s : new int[] {1, 2, 10, 11, 15}) {
             for (int n : new int[] {0, 1, 2, 3, 4, 5, 6, 7, 9, 10, 11, 12}) {
                 wrong(n << 4 | 7, 1, s, 0, 5);
@@ -122,7 +123,6 @@ public final class EdgesOfFieldsTest {
     }
 
     private static void operationsOfClass7And4() {
-        Check.sentence("CLASS 7 and 4: by n, the highest four bits of the code: 0 .. 13");
         for (int kind : new int[] {7, 4}) {
             for (int n : new int[] {14, 15}) {
                 for (int bit3 : new int[] {0, 8}) {
@@ -134,7 +134,6 @@ public final class EdgesOfFieldsTest {
     }
 
     private static void negation() {
-        Check.sentence("8 (bit 3 and i are 0)");
         for (int kind : new int[] {7, 4}) {
             right(0x80 | kind, 1, 0, 0, 0);
             wrong(0x88 | kind, 1, 0, 0, 0);
@@ -147,7 +146,6 @@ public final class EdgesOfFieldsTest {
     }
 
     private static void divisions() {
-        Check.sentence("3 and 9, with o 0 or 1");
         for (int n : new int[] {3, 9}) {
             for (int kind : new int[] {7, 4}) {
                 for (int o : new int[] {0, 1}) {
@@ -164,7 +162,6 @@ public final class EdgesOfFieldsTest {
     }
 
     private static void movesWithAnOffset() {
-        Check.sentence("11, bit 3 being 1, with o 8, 16 or 32");
         for (int o : new int[] {0, 8, 16, 32}) {
             right(0xbf, 1, 2, o, 0);
         }
@@ -178,7 +175,6 @@ public final class EdgesOfFieldsTest {
     }
 
     private static void turning() {
-        Check.sentence("13, bit 3 being 0, i 16, 32 or 64, s 0");
         for (int i : new int[] {16, 32, 64}) {
             right(0xd7, 1, 0, 0, i);
             wrong(0xdf, 1, 0, 0, i);
@@ -192,7 +188,6 @@ public final class EdgesOfFieldsTest {
     }
 
     private static void movesOfClass4() {
-        Check.sentence("CLASS 4: 11 with o 8 or 16 alone");
         for (int o : new int[] {0, 8, 16}) {
             right(0xbc, 1, 2, o, 0);
         }
@@ -204,7 +199,6 @@ public final class EdgesOfFieldsTest {
     }
 
     private static void cuttingInClass4() {
-        Check.sentence("CLASS 4: 13, s 0, i 16, 32 or 64");
         for (int code : new int[] {0xd4, 0xdc}) {
             for (int i : new int[] {16, 32, 64}) {
                 right(code, 1, 0, 0, i);
@@ -218,7 +212,6 @@ public final class EdgesOfFieldsTest {
     }
 
     private static void jumpByOffset() {
-        Check.sentence("CLASS 5: 0 (code 5; d, s, i are 0)");
         for (int o : new int[] {0, -1, 32767, -32768}) {
             right(0x05, 0, 0, o, 0);
         }
@@ -233,7 +226,6 @@ public final class EdgesOfFieldsTest {
     }
 
     private static void call() {
-        Check.sentence("8 (code 133; d, s are 0): a CALL of i");
         right(133, 0, 0, 0, 0);
         for (int i : IMMEDIATES_NOT_ZERO) {
             right(133, 0, 0, 0, i);
@@ -247,7 +239,6 @@ public final class EdgesOfFieldsTest {
     }
 
     private static void exit() {
-        Check.sentence("9 (code 149; d, s, i are 0): the EXIT");
         right(149, 0, 0, 0, 0);
         for (int v : NOT_ZERO) {
             wrong(149, v, 0, 0, 0);
@@ -260,7 +251,6 @@ public final class EdgesOfFieldsTest {
     }
 
     private static void operationsOfClass5() {
-        Check.sentence("CLASS 5, by n: 1 to 7 and 10 to 13");
         for (int n : JUMPING) {
             for (int o : new int[] {0, 1, -1, 32767, -32768}) {
                 right(n << 4 | 5, 10, 0, o, -5);
@@ -274,7 +264,6 @@ public final class EdgesOfFieldsTest {
     }
 
     private static void operationsOfClass6() {
-        Check.sentence("CLASS 6: likewise, 1 to 7 and 10 to 13");
         for (int n : JUMPING) {
             for (int o : new int[] {0, 1, -1, 32767, -32768}) {
                 right(n << 4 | 6, 10, 0, o, -5);
@@ -288,7 +277,6 @@ public final class EdgesOfFieldsTest {
     }
 
     private static void jumpByImmediate() {
-        Check.sentence("CLASS 6: 0 (code 6; d, s, o are 0)");
         right(0x06, 0, 0, 0, 0);
         for (int i : IMMEDIATES_NOT_ZERO) {
             right(0x06, 0, 0, 0, i);
@@ -304,7 +292,6 @@ public final class EdgesOfFieldsTest {
     }
 
     private static void modes() {
-        Check.sentence("MODES by bits 5 to 7: 3 and 4 of class 1, 3 of class 2, 3 and 6 of class 3");
         for (int size = 0; size < 4; size++) {
             for (int mode = 0; mode < 8; mode++) {
                 int code = mode << 5 | size << 3;
@@ -316,7 +303,6 @@ public final class EdgesOfFieldsTest {
     }
 
     private static void reads() {
-        Check.sentence("CLASS 1, i 0, mode 3");
         for (int code : new int[] {0x61, 0x69, 0x71, 0x79}) {
             right(code, 9, 10, -32768, 0);
             right(code, 0, 0, 32767, 0);
@@ -327,7 +313,6 @@ public final class EdgesOfFieldsTest {
     }
 
     private static void readsWithSign() {
-        Check.sentence("mode 4, z below 8");
         for (int code : new int[] {0x81, 0x89, 0x91}) {
             right(code, 9, 10, -32768, 0);
             for (int i : IMMEDIATES_NOT_ZERO) {
@@ -338,7 +323,6 @@ public final class EdgesOfFieldsTest {
     }
 
     private static void writesOfTheImmediate() {
-        Check.sentence("CLASS 2, s 0, mode 3");
         for (int code : new int[] {0x62, 0x6a, 0x72, 0x7a}) {
             for (int i : IMMEDIATES_NOT_ZERO) {
                 right(code, 10, 0, -32768, i);
@@ -350,7 +334,6 @@ public final class EdgesOfFieldsTest {
     }
 
     private static void writesOfARegister() {
-        Check.sentence("CLASS 3, mode 3, i 0");
         for (int code : new int[] {0x63, 0x6b, 0x73, 0x7b}) {
             right(code, 10, 10, 32767, 0);
             for (int i : IMMEDIATES_NOT_ZERO) {
@@ -360,7 +343,6 @@ public final class EdgesOfFieldsTest {
     }
 
     private static void exchanges() {
-        Check.sentence("CLASS 3, mode 6, z 4 or 8: by i: 0, 64, 80, 160, 225, 241, 1, 65, 81, 161");
         for (int i : new int[] {0, 1, 64, 65, 80, 81, 160, 161, 225, 241}) {
             right(0xc3, 1, 2, -32768, i);
             right(0xdb, 1, 2, 32767, i);
@@ -376,7 +358,6 @@ public final class EdgesOfFieldsTest {
     }
 
     private static void firstOfTwo() {
-        Check.sentence("CLASS 0, code 24");
         for (int code = 0; code < 256; code += 8) {
             looked(code, 1, 0, 0, 0, code == 24);
         }
@@ -386,7 +367,6 @@ public final class EdgesOfFieldsTest {
     }
 
     private static void map() {
-        Check.sentence("s is 0; or it is 1 (the number of a MAP): then i is not below 0");
         right(24, 1, 1, 0, 0);
         right(24, 1, 1, 0, Integer.MAX_VALUE);
         wrong(24, 1, 1, 0, -1);

@@ -9,24 +9,30 @@ public final class EdgesOfFormTest {
     private static final int[] PERHAPS = {1, 2, 3, 4, 5, 6, 7, 10, 11, 12, 13};
 
     public static void main(String[] args) {
-        theFirstThatIsWrong();
-        registersAbove10();
-        register10GetsNothing();
-        register10IsRead();
-        secondMissing();
-        secondNotAsTold();
-        secondAlone();
-        toAPlaceThatIsNotThere();
-        immediatesFarOff();
-        toTheSecondOfTwo();
-        lastInstruction();
-        lastInItsTurn();
-        lastOfTwoPlaces();
-        noPlace();
-        tornPlace();
-        tornBehindAFirst();
-        forThemselvesFirst();
-        tornBeforeGoingOn();
+        Check.sentence("load() goes through the places in order, and finds the first that is WRONG",
+            EdgesOfFormTest::theFirstThatIsWrong);
+        Check.sentence("d or s above 10 where it is a register", EdgesOfFormTest::registersAbove10);
+        Check.sentence("register 10 as one that gets something", EdgesOfFormTest::register10GetsNothing);
+        Check.sentence("register 10 as one that gets nothing (not wrong)", EdgesOfFormTest::register10IsRead);
+        Check.sentence("a second one of two that is missing (the first one is wrong then)", EdgesOfFormTest::secondMissing);
+        Check.sentence("a second one of two that is not as told (the first one is wrong then)",
+            EdgesOfFormTest::secondNotAsTold);
+        Check.sentence("a place that is no instruction as told: a second one of two alone", EdgesOfFormTest::secondAlone);
+        Check.sentence("one that goes on, or might, to a place that isn't there", EdgesOfFormTest::toAPlaceThatIsNotThere);
+        Check.sentence("CLASS 6, 0: it goes on i places behind the next one, to a place that isn't there",
+            EdgesOfFormTest::immediatesFarOff);
+        Check.sentence("or is the second one of two", EdgesOfFormTest::toTheSecondOfTwo);
+        Check.sentence("the last instruction if it is none that goes on elsewhere always (class 5 or 6 with n 0) or the EXIT",
+            EdgesOfFormTest::lastInstruction);
+        Check.sentence("(that is looked at for where it goes on, in its turn)", EdgesOfFormTest::lastInItsTurn);
+        Check.sentence("of one of two places at its first", EdgesOfFormTest::lastOfTwoPlaces);
+        Check.sentence("A program of no place is wrong at 0", EdgesOfFormTest::noPlace);
+        Check.sentence("one whose last place has fewer than 8 bytes at that place", EdgesOfFormTest::tornPlace);
+        Check.sentence("(behind a first one of two: at that one)", EdgesOfFormTest::tornBehindAFirst);
+        Check.sentence("(Places are looked at for themselves first, all of them; then where they go on, all of them.)",
+            EdgesOfFormTest::forThemselvesFirst);
+        Check.sentence("(Places are looked at for themselves first, all of them: a torn one, too)",
+            EdgesOfFormTest::tornBeforeGoingOn);
         Check.finish();
     }
 
@@ -56,7 +62,6 @@ public final class EdgesOfFormTest {
     }
 
     private static void theFirstThatIsWrong() {
-        Check.sentence("load() goes through the places in order, and finds the first that is WRONG");
         due("a wrong first one", 0, WRONG, ADD, WRONG, EXIT);
         due("a wrong one between", 1, ADD, WRONG, WRONG, EXIT);
         due("a wrong last one", 3, ADD, ADD, ADD, WRONG);
@@ -64,7 +69,6 @@ public final class EdgesOfFormTest {
     }
 
     private static void registersAbove10() {
-        Check.sentence("d or s above 10 where it is a register");
         for (int r = 11; r <= 15; r++) {
             for (int code : new int[] {0x07, 0x04, 0x0f, 0x0c, 0x61, 0x81, 0x62, 0x63, 0xc3, 0x15, 0x1d, 0x16, 0x1e, 0x18}) {
                 due("code " + code + " with d " + r, 0, Check.place(code, r, 0, 0, 0), code == 0x18 ? 0 : EXIT, EXIT);
@@ -77,7 +81,6 @@ public final class EdgesOfFormTest {
     }
 
     private static void register10GetsNothing() {
-        Check.sentence("register 10 as one that gets something");
         for (int n : new int[] {0, 1, 2, 3, 4, 5, 6, 7, 8, 9, 10, 11, 12}) {
             for (int kind : new int[] {7, 4}) {
                 due("n " + n + " of class " + kind + " with d 10", 0, Check.place(n << 4 | kind, 10, 0, 0, 0), EXIT);
@@ -101,7 +104,6 @@ public final class EdgesOfFormTest {
     }
 
     private static void register10IsRead() {
-        Check.sentence("register 10 as one that gets nothing (not wrong)");
         for (int code : new int[] {0x0f, 0x0c, 0xbf, 0x61, 0x81, 0x63}) {
             due("code " + code + " with s 10", NONE, Check.place(code, 1, 10, 0, 0), EXIT);
         }
@@ -120,14 +122,12 @@ public final class EdgesOfFormTest {
     }
 
     private static void secondMissing() {
-        Check.sentence("a second one of two that is missing (the first one is wrong then)");
         due("a first one alone", 0, FIRST);
         due("a first one at the end", 2, ADD, EXIT, FIRST);
         due("a first one behind two at the end", 2, FIRST, SECOND, FIRST);
     }
 
     private static void secondNotAsTold() {
-        Check.sentence("a second one of two that is not as told (the first one is wrong then)");
         due("any immediate", NONE, FIRST, Check.place(0, 0, 0, 0, Integer.MIN_VALUE), EXIT);
         due("a second one with a code", 1, ADD, FIRST, Check.place(1, 0, 0, 0, 6), EXIT);
         due("a first one as second one", 0, FIRST, FIRST, SECOND, EXIT);
@@ -147,14 +147,12 @@ public final class EdgesOfFormTest {
     }
 
     private static void secondAlone() {
-        Check.sentence("a place that is no instruction as told: a second one of two alone");
         due("a second one at the start", 0, SECOND, EXIT);
         due("zeros alone", 0, 0);
         due("a second one behind two", 2, FIRST, SECOND, SECOND, EXIT);
     }
 
     private static void toAPlaceThatIsNotThere() {
-        Check.sentence("one that goes on, or might, to a place that isn't there");
         for (int k = 0; k < 2; k++) {
             int kind = 5 + k;
             for (int n : PERHAPS) {
@@ -178,14 +176,15 @@ public final class EdgesOfFormTest {
     }
 
     private static void immediatesFarOff() {
-        Check.sentence("CLASS 6, 0: it goes on i places behind the next one, to a place that isn't there");
-        for (int i : new int[] {Integer.MAX_VALUE, Integer.MAX_VALUE - 1, Integer.MIN_VALUE, Integer.MIN_VALUE + 2, 65535, 65536, -65536, 4096}) {
+        int[] farOff = {
+            Integer.MAX_VALUE, Integer.MAX_VALUE - 1, Integer.MIN_VALUE, Integer.MIN_VALUE + 2, 65535, 65536, -65536, 4096
+        };
+        for (int i : farOff) {
             due("a jump by the immediate " + i, 1, ADD, jumpByImmediate(i), EXIT);
         }
     }
 
     private static void toTheSecondOfTwo() {
-        Check.sentence("or is the second one of two");
         long[] over = {jump(1), jumpByImmediate(1), perhaps(1), Check.place(0xde, 1, 2, 1, 0)};
         for (long w : over) {
             due("a jump to the second one of two", 0, w, FIRST, SECOND, EXIT);
@@ -200,7 +199,6 @@ public final class EdgesOfFormTest {
     }
 
     private static void lastInstruction() {
-        Check.sentence("the last instruction if it is none that goes on elsewhere always (class 5 or 6 with n 0) or the EXIT");
         due("the EXIT as the last", NONE, EXIT);
         due("code 5 as the last", NONE, jump(-1));
         due("code 6 as the last", NONE, jumpByImmediate(-1));
@@ -216,20 +214,17 @@ public final class EdgesOfFormTest {
     }
 
     private static void lastInItsTurn() {
-        Check.sentence("(that is looked at for where it goes on, in its turn)");
         due("a jump to nowhere before a wrong last one", 1, EXIT, jump(99), ADD);
         due("a wrong place before a wrong last one", 1, EXIT, WRONG, ADD);
         due("a wrong last one alone", 2, EXIT, jump(0), ADD);
     }
 
     private static void lastOfTwoPlaces() {
-        Check.sentence("of one of two places at its first");
         due("two places alone", 0, FIRST, SECOND);
         due("two places at the end", 2, EXIT, EXIT, FIRST, SECOND);
     }
 
     private static void noPlace() {
-        Check.sentence("A program of no place is wrong at 0");
         due("no place", 0);
         CompiledProgram x = Check.with(EXIT);
         Check.same("load() of an empty tape behind a program", x.load(), 0);
@@ -237,7 +232,6 @@ public final class EdgesOfFormTest {
     }
 
     private static void tornPlace() {
-        Check.sentence("one whose last place has fewer than 8 bytes at that place");
         for (int n = 1; n < 8; n++) {
             torn("a torn place alone", n, 0, EXIT);
             torn("a torn place behind the EXIT", 8 + n, 1, EXIT, EXIT);
@@ -247,7 +241,6 @@ public final class EdgesOfFormTest {
     }
 
     private static void tornBehindAFirst() {
-        Check.sentence("(behind a first one of two: at that one)");
         for (int n = 1; n < 8; n++) {
             torn("a torn second one", 8 + n, 0, FIRST, SECOND);
             torn("a torn second one behind others", 24 + n, 2, EXIT, EXIT, FIRST, SECOND);
@@ -256,7 +249,6 @@ public final class EdgesOfFormTest {
     }
 
     private static void forThemselvesFirst() {
-        Check.sentence("(Places are looked at for themselves first, all of them; then where they go on, all of them.)");
         due("a jump to nowhere before a wrong place", 2, jump(99), EXIT, WRONG, EXIT);
         due("a jump to a second one before a wrong place", 3, jump(1), FIRST, SECOND, WRONG);
         due("a jump to nowhere before a missing second one", 1, jump(99), FIRST);
@@ -266,7 +258,6 @@ public final class EdgesOfFormTest {
     }
 
     private static void tornBeforeGoingOn() {
-        Check.sentence("(Places are looked at for themselves first, all of them: a torn one, too)");
         for (int n = 1; n < 8; n++) {
             torn("a jump to nowhere before a torn place", 8 + n, 1, jump(99), EXIT);
             torn("an addition before a torn place", 8 + n, 1, ADD, EXIT);

@@ -5,22 +5,26 @@ public final class EdgesOfJumpingTest {
     private static final long ABOVE_INT = 0x1234567800000000L;
 
     public static void main(String[] args) {
-        goesOnAtTheNextPlace();
-        placesBehindTheNextOne();
-        same();
-        greaterUnsigned();
-        notLessUnsigned();
-        commonBits();
-        notSame();
-        greaterWithSign();
-        notLessWithSign();
-        lessUnsigned();
-        notGreaterUnsigned();
-        lessWithSign();
-        notGreaterWithSign();
-        elseTheNextOne();
-        intsOfClass6();
-        byTheImmediate();
+        Check.sentence("Where it isn't said otherwise, it goes on at the next place",
+            EdgesOfJumpingTest::goesOnAtTheNextPlace);
+        Check.sentence("0: it goes on o places behind the next one", EdgesOfJumpingTest::placesBehindTheNextOne);
+        Check.sentence("1: it does so if x is y", EdgesOfJumpingTest::same);
+        Check.sentence("2: x is greater, unsigned", EdgesOfJumpingTest::greaterUnsigned);
+        Check.sentence("3: not less, unsigned", EdgesOfJumpingTest::notLessUnsigned);
+        Check.sentence("4: x & y is not 0", EdgesOfJumpingTest::commonBits);
+        Check.sentence("5: x is not y", EdgesOfJumpingTest::notSame);
+        Check.sentence("6: greater, with sign", EdgesOfJumpingTest::greaterWithSign);
+        Check.sentence("7: not less, with sign", EdgesOfJumpingTest::notLessWithSign);
+        Check.sentence("10: less, unsigned", EdgesOfJumpingTest::lessUnsigned);
+        Check.sentence("11: not greater, unsigned", EdgesOfJumpingTest::notGreaterUnsigned);
+        Check.sentence("12: less, with sign", EdgesOfJumpingTest::lessWithSign);
+        Check.sentence("13: not greater, with sign", EdgesOfJumpingTest::notGreaterWithSign);
+        Check.sentence("else it goes on at the next one", EdgesOfJumpingTest::elseTheNextOne);
+        Check.sentence("CLASS 6: likewise, 1 to 7 and 10 to 13, with the lowest 32 bits of x and y as ints",
+            EdgesOfJumpingTest::intsOfClass6);
+        Check.sentence("CLASS 5 and 6: y is i, with sign, where bit 3 of the code is 0", EdgesOfJumpingTest::byTheImmediate);
+        Check.sentence("CLASS 6, 0: it goes on i places behind the next one",
+            EdgesOfJumpingTest::immediatePlacesBehindTheNextOne);
         Check.finish();
     }
 
@@ -47,7 +51,6 @@ public final class EdgesOfJumpingTest {
     }
 
     private static void goesOnAtTheNextPlace() {
-        Check.sentence("Where it isn't said otherwise, it goes on at the next place");
         int[] codes = {0x07, 0x04, 0xb7, 0x87, 0x85, 0x61, 0x62, 0x63, 0xc3};
         for (int code : codes) {
             CompiledProgram p = Check.with(Check.place(code, code == 0x85 ? 0 : 1, 0, 0, 0), Check.EXIT, Check.EXIT);
@@ -60,7 +63,6 @@ public final class EdgesOfJumpingTest {
     }
 
     private static void placesBehindTheNextOne() {
-        Check.sentence("0: it goes on o places behind the next one");
         for (int o = -4; o <= 2; o++) {
             CompiledProgram p = Check.with(Check.place(0x05, 0, 0, 2, 0), Check.EXIT, Check.EXIT,
                 Check.place(0x05, 0, 0, o, 0), Check.EXIT, Check.EXIT, Check.EXIT);
@@ -71,7 +73,6 @@ public final class EdgesOfJumpingTest {
     }
 
     private static void same() {
-        Check.sentence("1: it does so if x is y");
         jumps(1, 0, 0);
         jumps(1, LEAST, LEAST);
         stays(1, 0, 1);
@@ -80,7 +81,6 @@ public final class EdgesOfJumpingTest {
     }
 
     private static void greaterUnsigned() {
-        Check.sentence("2: x is greater, unsigned");
         stays(2, 0, 0);
         stays(2, -1, -1);
         jumps(2, 1, 0);
@@ -92,7 +92,6 @@ public final class EdgesOfJumpingTest {
     }
 
     private static void notLessUnsigned() {
-        Check.sentence("3: not less, unsigned");
         jumps(3, 0, 0);
         jumps(3, -1, -1);
         jumps(3, 1, 0);
@@ -103,7 +102,6 @@ public final class EdgesOfJumpingTest {
     }
 
     private static void commonBits() {
-        Check.sentence("4: x & y is not 0");
         stays(4, 0, 0);
         stays(4, 0, -1);
         stays(4, 5, 10);
@@ -113,7 +111,6 @@ public final class EdgesOfJumpingTest {
     }
 
     private static void notSame() {
-        Check.sentence("5: x is not y");
         stays(5, 0, 0);
         stays(5, LEAST, LEAST);
         jumps(5, 0, 1);
@@ -122,7 +119,6 @@ public final class EdgesOfJumpingTest {
     }
 
     private static void greaterWithSign() {
-        Check.sentence("6: greater, with sign");
         stays(6, 0, 0);
         jumps(6, 1, 0);
         stays(6, -1, 0);
@@ -132,7 +128,6 @@ public final class EdgesOfJumpingTest {
     }
 
     private static void notLessWithSign() {
-        Check.sentence("7: not less, with sign");
         jumps(7, 0, 0);
         jumps(7, 1, 0);
         stays(7, -1, 0);
@@ -142,7 +137,6 @@ public final class EdgesOfJumpingTest {
     }
 
     private static void lessUnsigned() {
-        Check.sentence("10: less, unsigned");
         stays(10, 0, 0);
         stays(10, -1, -1);
         jumps(10, 0, 1);
@@ -153,7 +147,6 @@ public final class EdgesOfJumpingTest {
     }
 
     private static void notGreaterUnsigned() {
-        Check.sentence("11: not greater, unsigned");
         jumps(11, 0, 0);
         jumps(11, -1, -1);
         jumps(11, 0, -1);
@@ -163,7 +156,6 @@ public final class EdgesOfJumpingTest {
     }
 
     private static void lessWithSign() {
-        Check.sentence("12: less, with sign");
         stays(12, 0, 0);
         jumps(12, -1, 0);
         stays(12, 0, -1);
@@ -172,7 +164,6 @@ public final class EdgesOfJumpingTest {
     }
 
     private static void notGreaterWithSign() {
-        Check.sentence("13: not greater, with sign");
         jumps(13, 0, 0);
         jumps(13, -1, 0);
         stays(13, 0, -1);
@@ -182,7 +173,6 @@ public final class EdgesOfJumpingTest {
     }
 
     private static void elseTheNextOne() {
-        Check.sentence("else it goes on at the next one");
         CompiledProgram p = Check.with(
             Check.place(0x55, 1, 0, 2, 0), Check.EXIT, Check.EXIT, Check.place(0x55, 1, 0, -3, 0), Check.EXIT);
         Check.ran("x is 0: not taken", p, 9, CompiledProgram.EXIT, 1, 2);
@@ -191,7 +181,6 @@ public final class EdgesOfJumpingTest {
     }
 
     private static void intsOfClass6() {
-        Check.sentence("CLASS 6: likewise, 1 to 7 and 10 to 13, with the lowest 32 bits of x and y as ints");
         goes(6, 1, ABOVE_INT, 0, true);
         goes(6, 5, ABOVE_INT, 0, false);
         goes(6, 1, 1, 0, false);
@@ -221,7 +210,6 @@ public final class EdgesOfJumpingTest {
     }
 
     private static void byTheImmediate() {
-        Check.sentence("CLASS 5 and 6: y is i, with sign, where bit 3 of the code is 0");
         byImmediate(5, 1, -1, -1, true);
         byImmediate(5, 1, 0xffffffffL, -1, false);
         byImmediate(6, 1, 0xffffffffL, -1, true);
@@ -231,7 +219,9 @@ public final class EdgesOfJumpingTest {
         byImmediate(5, 12, LEAST_INT, Integer.MIN_VALUE, false);
         byImmediate(5, 12, LEAST_INT - 1, Integer.MIN_VALUE, true);
         byImmediate(5, 4, 1L << 63, Integer.MIN_VALUE, true);
-        Check.sentence("CLASS 6, 0: it goes on i places behind the next one");
+    }
+
+    private static void immediatePlacesBehindTheNextOne() {
         for (int i = -4; i <= 2; i++) {
             CompiledProgram p = Check.with(Check.place(0x06, 0, 0, 0, 2), Check.EXIT, Check.EXIT,
                 Check.place(0x06, 0, 0, 0, i), Check.EXIT, Check.EXIT, Check.EXIT);

@@ -8,29 +8,32 @@ public final class EdgesOfRunTest {
     private static final int[] WRONG_FUELS = {-1, 100001, Integer.MIN_VALUE, Integer.MAX_VALUE};
 
     public static void main(String[] args) {
-        fromPlaceZeroOn();
-        eachInstructionIsAStep();
-        fuelZero();
-        whateverComes();
-        lastStepOfAFuel();
-        exitIsAStep();
-        notInMemory();
-        notAMultiple();
-        registersAndMemoryAsTheyAre();
-        wrongFuel();
-        edgesOfFuel();
-        noProgram();
-        firstNamedException();
-        throwingChangesNothing();
-        placeOfNoRun();
-        placeOfTheLatestRun();
-        stepsOfNoRun();
-        stepsOfTheLatestRun();
+        Check.sentence("TO RUN with a fuel: from place 0 on", EdgesOfRunTest::fromPlaceZeroOn);
+        Check.sentence("Each instruction (of two places, too) is a STEP", EdgesOfRunTest::eachInstructionIsAStep);
+        Check.sentence("when as many as the fuel are done, and another one comes: fuel 0", EdgesOfRunTest::fuelZero);
+        Check.sentence("and another one comes (whatever it is), it ends with FUEL at its place",
+            EdgesOfRunTest::whateverComes);
+        Check.sentence("when as many as the fuel are done: the last step of a fuel is done",
+            EdgesOfRunTest::lastStepOfAFuel);
+        Check.sentence("The EXIT is a step, and ends it with EXIT", EdgesOfRunTest::exitIsAStep);
+        Check.sentence("An instruction that would read or write a byte that is not in MEMORY is no step, and ends it with TRAP",
+            EdgesOfRunTest::notInMemory);
+        Check.sentence("or has an address that should be a multiple of z and isn't", EdgesOfRunTest::notAMultiple);
+        Check.sentence("Runs the program with a fuel, registers and memory as they are",
+            EdgesOfRunTest::registersAndMemoryAsTheyAre);
+        Check.sentence("IllegalArgumentException: fuel is not 0 .. 100000", EdgesOfRunTest::wrongFuel);
+        Check.sentence("fuel 0 .. 100000: both ends are right", EdgesOfRunTest::edgesOfFuel);
+        Check.sentence("IllegalStateException: there is no program", EdgesOfRunTest::noProgram);
+        Check.sentence("of two exceptions the one that it names first is thrown", EdgesOfRunTest::firstNamedException);
+        Check.sentence("A call that throws changes nothing", EdgesOfRunTest::throwingChangesNothing);
+        Check.sentence("place: NONE when there was none", EdgesOfRunTest::placeOfNoRun);
+        Check.sentence("The place at which the latest run ended", EdgesOfRunTest::placeOfTheLatestRun);
+        Check.sentence("steps: 0 when there was none", EdgesOfRunTest::stepsOfNoRun);
+        Check.sentence("How many steps the latest run made", EdgesOfRunTest::stepsOfTheLatestRun);
         Check.finish();
     }
 
     private static void fromPlaceZeroOn() {
-        Check.sentence("TO RUN with a fuel: from place 0 on");
         CompiledProgram x = Check.with(ADD, ADD, Check.place(0x07, 2, 0, 0, 1), Check.EXIT);
         Check.ran("the first run", x, 2, FUEL, 2, 2);
         Check.ran("a run behind FUEL", x, 2, FUEL, 2, 2);
@@ -41,7 +44,6 @@ public final class EdgesOfRunTest {
     }
 
     private static void eachInstructionIsAStep() {
-        Check.sentence("Each instruction (of two places, too) is a STEP");
         CompiledProgram x = Check.with(FIRST, 0, FIRST, 0, ADD, Check.EXIT);
         Check.ran("fuel 1", x, 1, FUEL, 2, 1);
         Check.ran("fuel 2", x, 2, FUEL, 4, 2);
@@ -53,7 +55,6 @@ public final class EdgesOfRunTest {
     }
 
     private static void fuelZero() {
-        Check.sentence("when as many as the fuel are done, and another one comes: fuel 0");
         Check.ran("before an addition", Check.with(ADD, Check.EXIT), 0, FUEL, 0, 0);
         Check.ran("before the EXIT", Check.with(Check.EXIT), 0, FUEL, 0, 0);
         Check.ran("before a TRAP", Check.with(TRAPPING, Check.EXIT), 0, FUEL, 0, 0);
@@ -64,7 +65,6 @@ public final class EdgesOfRunTest {
     }
 
     private static void whateverComes() {
-        Check.sentence("and another one comes (whatever it is), it ends with FUEL at its place");
         Check.ran("the EXIT comes", Check.with(ADD, Check.EXIT), 1, FUEL, 1, 1);
         Check.ran("a TRAP comes", Check.with(ADD, TRAPPING, Check.EXIT), 1, FUEL, 1, 1);
         Check.ran("two places come", Check.with(ADD, FIRST, 0, Check.EXIT), 1, FUEL, 1, 1);
@@ -74,7 +74,6 @@ public final class EdgesOfRunTest {
     }
 
     private static void lastStepOfAFuel() {
-        Check.sentence("when as many as the fuel are done: the last step of a fuel is done");
         CompiledProgram x = Check.with(ADD, ADD, ADD, Check.EXIT);
         x.run(2);
         Check.same("r1 behind fuel 2", x.get(1), 2);
@@ -83,14 +82,12 @@ public final class EdgesOfRunTest {
     }
 
     private static void exitIsAStep() {
-        Check.sentence("The EXIT is a step, and ends it with EXIT");
         Check.ran("the EXIT as the last step of the fuel", Check.with(ADD, Check.EXIT), 2, EXIT, 1, 2);
         Check.ran("the EXIT alone", Check.with(Check.EXIT), 1, EXIT, 0, 1);
         Check.ran("fuel left", Check.with(Check.EXIT, ADD, Check.EXIT), 9, EXIT, 0, 1);
     }
 
     private static void notInMemory() {
-        Check.sentence("An instruction that would read or write a byte that is not in MEMORY is no step, and ends it with TRAP");
         CompiledProgram x = Check.with(ADD, TRAPPING, Check.EXIT);
         Check.ran("a read at 0", x, 9, TRAP, 1, 1);
         x.set(9, Check.MEMORY + 4089);
@@ -102,7 +99,6 @@ public final class EdgesOfRunTest {
     }
 
     private static void notAMultiple() {
-        Check.sentence("or has an address that should be a multiple of z and isn't");
         CompiledProgram x = Check.with(ADD, Check.place(0xdb, 9, 2, 0, 0), Check.EXIT);
         x.set(9, Check.MEMORY + 4);
         Check.ran("an exchange of 8 bytes at 4", x, 9, TRAP, 1, 1);
@@ -111,7 +107,6 @@ public final class EdgesOfRunTest {
     }
 
     private static void registersAndMemoryAsTheyAre() {
-        Check.sentence("Runs the program with a fuel, registers and memory as they are");
         CompiledProgram x = Check.with(Check.place(0x79, 1, 9, 0, 0), ADD, Check.place(0x7b, 9, 1, 0, 0), Check.EXIT);
         x.put(Check.MEMORY, Long.MAX_VALUE);
         x.set(9, Check.MEMORY);
@@ -122,7 +117,6 @@ public final class EdgesOfRunTest {
     }
 
     private static void wrongFuel() {
-        Check.sentence("IllegalArgumentException: fuel is not 0 .. 100000");
         CompiledProgram x = Check.with(ADD, Check.EXIT);
         for (int fuel : WRONG_FUELS) {
             Check.fails("run(" + fuel + ")", IllegalArgumentException.class, () -> x.run(fuel));
@@ -131,7 +125,6 @@ public final class EdgesOfRunTest {
     }
 
     private static void edgesOfFuel() {
-        Check.sentence("fuel 0 .. 100000: both ends are right");
         CompiledProgram x = Check.with(ADD, Check.place(0x05, 0, 0, -2, 0));
         Check.ran("the least fuel", x, 0, FUEL, 0, 0);
         Check.ran("the greatest fuel", x, 100000, FUEL, 0, 100000);
@@ -140,7 +133,6 @@ public final class EdgesOfRunTest {
     }
 
     private static void noProgram() {
-        Check.sentence("IllegalStateException: there is no program");
         CompiledProgram x = new CompiledProgram();
         for (int fuel : new int[] {0, 1, 100000}) {
             Check.fails("run(" + fuel + ") of a new object", IllegalStateException.class, () -> x.run(fuel));
@@ -155,7 +147,6 @@ public final class EdgesOfRunTest {
     }
 
     private static void firstNamedException() {
-        Check.sentence("of two exceptions the one that it names first is thrown");
         CompiledProgram x = new CompiledProgram();
         for (int fuel : WRONG_FUELS) {
             Check.fails("run(" + fuel + ") without a program", IllegalArgumentException.class, () -> x.run(fuel));
@@ -163,7 +154,6 @@ public final class EdgesOfRunTest {
     }
 
     private static void throwingChangesNothing() {
-        Check.sentence("A call that throws changes nothing");
         CompiledProgram x = Check.with(ADD, Check.place(0x7b, 9, 1, 0, 0), ADD, Check.EXIT);
         x.set(9, Check.MEMORY);
         Check.ran("before", x, 3, FUEL, 3, 3);
@@ -201,7 +191,6 @@ public final class EdgesOfRunTest {
     }
 
     private static void placeOfNoRun() {
-        Check.sentence("place: NONE when there was none");
         CompiledProgram x = new CompiledProgram();
         Check.same("place() of a new object", x.place(), NONE);
         Check.fails("run(1)", IllegalStateException.class, () -> x.run(1));
@@ -213,7 +202,6 @@ public final class EdgesOfRunTest {
     }
 
     private static void placeOfTheLatestRun() {
-        Check.sentence("The place at which the latest run ended");
         CompiledProgram x = Check.with(ADD, TRAPPING, ADD, Check.EXIT);
         x.run(9);
         Check.same("place() behind TRAP", x.place(), 1);
@@ -227,7 +215,6 @@ public final class EdgesOfRunTest {
     }
 
     private static void stepsOfNoRun() {
-        Check.sentence("steps: 0 when there was none");
         CompiledProgram x = new CompiledProgram();
         Check.same("steps() of a new object", x.steps(), 0);
         Check.fails("run(1)", IllegalStateException.class, () -> x.run(1));
@@ -237,7 +224,6 @@ public final class EdgesOfRunTest {
     }
 
     private static void stepsOfTheLatestRun() {
-        Check.sentence("How many steps the latest run made");
         CompiledProgram x = Check.with(ADD, TRAPPING, ADD, Check.EXIT);
         x.set(9, Check.MEMORY);
         x.run(9);

@@ -7,32 +7,32 @@ public final class EdgesOfStateTest {
     private static final int[] NO_REGISTERS = {-1, 11, 15, 16, 32, Integer.MIN_VALUE, Integer.MAX_VALUE};
 
     public static void main(String[] args) {
-        noProgram();
-        registersAreZero();
-        memoryIsZero();
-        theTapeIsEmpty();
-        nothingWasRun();
-        registersHoldLongs();
-        setOfNoRegister();
-        getOfNoRegister();
-        memoryOf4096Bytes();
-        lowestByteFirst();
-        putOfEightBytes();
-        wordOfEightBytes();
-        putOutsideMemory();
-        wordOutsideMemory();
+        Check.sentence("A new object: No program", EdgesOfStateTest::noProgram);
+        Check.sentence("A new object: registers are 0", EdgesOfStateTest::registersAreZero);
+        Check.sentence("A new object: memory is 0", EdgesOfStateTest::memoryIsZero);
+        Check.sentence("A new object: the TAPE is empty", EdgesOfStateTest::theTapeIsEmpty);
+        Check.sentence("A new object: nothing was run", EdgesOfStateTest::nothingWasRun);
+        Check.sentence("REGISTERS 0 .. 10 hold longs", EdgesOfStateTest::registersHoldLongs);
+        Check.sentence("Register r becomes v. IndexOutOfBoundsException: there is no such register",
+            EdgesOfStateTest::setOfNoRegister);
+        Check.sentence("Register r. IndexOutOfBoundsException: there is no such register",
+            EdgesOfStateTest::getOfNoRegister);
+        Check.sentence("MEMORY has 4,096 bytes at the addresses 2^31 on", EdgesOfStateTest::memoryOf4096Bytes);
+        Check.sentence("numbers stand in it with the lowest byte first", EdgesOfStateTest::lowestByteFirst);
+        Check.sentence("put: The eight bytes at an address become v", EdgesOfStateTest::putOfEightBytes);
+        Check.sentence("word: The eight bytes at an address", EdgesOfStateTest::wordOfEightBytes);
+        Check.sentence("put: IndexOutOfBoundsException: one is not in memory", EdgesOfStateTest::putOutsideMemory);
+        Check.sentence("word: IndexOutOfBoundsException: one is not in memory", EdgesOfStateTest::wordOutsideMemory);
         Check.finish();
     }
 
     private static void noProgram() {
-        Check.sentence("A new object: No program");
         CompiledProgram x = new CompiledProgram();
         Check.same("places()", x.places(), 0);
         Check.fails("run(0)", IllegalStateException.class, () -> x.run(0));
     }
 
     private static void registersAreZero() {
-        Check.sentence("A new object: registers are 0");
         CompiledProgram x = new CompiledProgram();
         for (int r = 0; r <= 10; r++) {
             Check.same("get(" + r + ")", x.get(r), 0);
@@ -40,7 +40,6 @@ public final class EdgesOfStateTest {
     }
 
     private static void memoryIsZero() {
-        Check.sentence("A new object: memory is 0");
         CompiledProgram x = new CompiledProgram();
         for (long address = FIRST; address <= LAST; address += 8) {
             Check.same("word(" + address + ")", x.word(address), 0);
@@ -48,21 +47,18 @@ public final class EdgesOfStateTest {
     }
 
     private static void theTapeIsEmpty() {
-        Check.sentence("A new object: the TAPE is empty");
         CompiledProgram x = new CompiledProgram();
         Check.hasTyped("a new object", x, 0);
         Check.same("load()", x.load(), 0);
     }
 
     private static void nothingWasRun() {
-        Check.sentence("A new object: nothing was run");
         CompiledProgram x = new CompiledProgram();
         Check.same("place()", x.place(), CompiledProgram.NONE);
         Check.same("steps()", x.steps(), 0);
     }
 
     private static void registersHoldLongs() {
-        Check.sentence("REGISTERS 0 .. 10 hold longs");
         for (long v : new long[] {Long.MIN_VALUE, Long.MAX_VALUE, -1, 1L << 32}) {
             for (int r = 0; r <= 10; r++) {
                 CompiledProgram x = new CompiledProgram();
@@ -75,7 +71,6 @@ public final class EdgesOfStateTest {
     }
 
     private static void setOfNoRegister() {
-        Check.sentence("Register r becomes v. IndexOutOfBoundsException: there is no such register");
         CompiledProgram x = new CompiledProgram();
         for (int r : NO_REGISTERS) {
             Check.fails("set(" + r + ", 5)", IndexOutOfBoundsException.class, () -> x.set(r, 5));
@@ -86,7 +81,6 @@ public final class EdgesOfStateTest {
     }
 
     private static void getOfNoRegister() {
-        Check.sentence("Register r. IndexOutOfBoundsException: there is no such register");
         CompiledProgram x = new CompiledProgram();
         for (int r : NO_REGISTERS) {
             Check.fails("get(" + r + ")", IndexOutOfBoundsException.class, () -> x.get(r));
@@ -94,7 +88,6 @@ public final class EdgesOfStateTest {
     }
 
     private static void memoryOf4096Bytes() {
-        Check.sentence("MEMORY has 4,096 bytes at the addresses 2^31 on");
         CompiledProgram x = new CompiledProgram();
         x.put(2147483648L, 11);
         x.put(2147483648L + 4088, 22);
@@ -105,7 +98,6 @@ public final class EdgesOfStateTest {
     }
 
     private static void lowestByteFirst() {
-        Check.sentence("numbers stand in it with the lowest byte first");
         CompiledProgram x = new CompiledProgram();
         x.put(FIRST, 0x8877665544332211L);
         for (int k = 0; k < 8; k++) {
@@ -114,7 +106,6 @@ public final class EdgesOfStateTest {
     }
 
     private static void putOfEightBytes() {
-        Check.sentence("put: The eight bytes at an address become v");
         for (long address : new long[] {FIRST + 8, FIRST + 9, FIRST + 15, LAST - 8, LAST - 9}) {
             CompiledProgram x = new CompiledProgram();
             x.put(address - 8, -1);
@@ -127,7 +118,6 @@ public final class EdgesOfStateTest {
     }
 
     private static void wordOfEightBytes() {
-        Check.sentence("word: The eight bytes at an address");
         CompiledProgram x = new CompiledProgram();
         for (long address : new long[] {FIRST, FIRST + 1, FIRST + 7, LAST - 1, LAST}) {
             for (long v : new long[] {Long.MIN_VALUE, Long.MAX_VALUE, -1, 255, 0}) {
@@ -152,7 +142,6 @@ public final class EdgesOfStateTest {
     }
 
     private static void putOutsideMemory() {
-        Check.sentence("put: IndexOutOfBoundsException: one is not in memory");
         CompiledProgram x = new CompiledProgram();
         for (long address : outside()) {
             Check.fails("put(" + address + ", -1)", IndexOutOfBoundsException.class, () -> x.put(address, -1));
@@ -162,7 +151,6 @@ public final class EdgesOfStateTest {
     }
 
     private static void wordOutsideMemory() {
-        Check.sentence("word: IndexOutOfBoundsException: one is not in memory");
         CompiledProgram x = new CompiledProgram();
         for (long address : outside()) {
             Check.fails("word(" + address + ")", IndexOutOfBoundsException.class, () -> x.word(address));

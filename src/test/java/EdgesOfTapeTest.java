@@ -7,25 +7,32 @@ public final class EdgesOfTapeTest {
     private static final long ADD = Check.place(0x07, 1, 0, 0, 1);
 
     public static void main(String[] args) {
-        atMost512Calls();
-        tapeOfAtMost32768();
-        typedTwentyAtATimeAndCut();
-        loadUsesTheTapeUp();
-        programOfAtMost4096();
-        fourBitsEach();
-        offsetsWithSign();
-        immediatesWithSign();
-        highestByteFirst();
-        feedTellsHowManyThen();
-        feedWithoutRoom();
-        cutBehindN();
-        endBelowZero();
-        endOfMoreThanItHas();
-        loadOfARightOne();
-        loadOfAWrongOne();
-        theTapeIsEmptyThen();
-        placesOfAProgram();
-        placesWithoutAProgram();
+        Check.sentence("An object is used for at most 512 calls after it has been made", EdgesOfTapeTest::atMost512Calls);
+        Check.sentence("THE TAPE is a row of bytes, at most 32,768", EdgesOfTapeTest::tapeOfAtMost32768);
+        Check.sentence("that is typed twenty at a time, and cut", EdgesOfTapeTest::typedTwentyAtATimeAndCut);
+        Check.sentence("load() uses it up", EdgesOfTapeTest::loadUsesTheTapeUp);
+        Check.sentence("A PROGRAM is a row of PLACES 0, 1, .., 8 bytes each, at most 4,096",
+            EdgesOfTapeTest::programOfAtMost4096);
+        Check.sentence("byte 1: its lowest four bits d, its highest four s", EdgesOfTapeTest::fourBitsEach);
+        Check.sentence("bytes 2 and 3 the OFFSET o, both with sign, lowest byte first", EdgesOfTapeTest::offsetsWithSign);
+        Check.sentence("bytes 4 to 7 the IMMEDIATE i, both with sign, lowest byte first",
+            EdgesOfTapeTest::immediatesWithSign);
+        Check.sentence("Twenty bytes more on the TAPE, those of a first, the highest byte of each first",
+            EdgesOfTapeTest::highestByteFirst);
+        Check.sentence("how many it has then", EdgesOfTapeTest::feedTellsHowManyThen);
+        Check.sentence("int feed(..) throws IllegalStateException: no room on the TAPE", EdgesOfTapeTest::feedWithoutRoom);
+        Check.sentence("The TAPE is cut behind its first n bytes.", EdgesOfTapeTest::cutBehindN);
+        Check.sentence("IllegalArgumentException: n is below 0", EdgesOfTapeTest::endBelowZero);
+        Check.sentence("or more than it has", EdgesOfTapeTest::endOfMoreThanItHas);
+        Check.sentence("The TAPE becomes the program (NONE; registers, memory, and what the latest run told stay)",
+            EdgesOfTapeTest::loadOfARightOne);
+        Check.sentence("or is refused (the first wrong place; there is no program then, not the one before either)",
+            EdgesOfTapeTest::loadOfAWrongOne);
+        Check.sentence("(Registers, memory, and what the latest run told, stay.)",
+            EdgesOfTapeTest::allElseStaysBehindAWrongOne);
+        Check.sentence("the TAPE is empty then", EdgesOfTapeTest::theTapeIsEmptyThen);
+        Check.sentence("How many places the program has", EdgesOfTapeTest::placesOfAProgram);
+        Check.sentence("0 without one", EdgesOfTapeTest::placesWithoutAProgram);
         Check.finish();
     }
 
@@ -44,7 +51,6 @@ public final class EdgesOfTapeTest {
     }
 
     private static void atMost512Calls() {
-        Check.sentence("An object is used for at most 512 calls after it has been made");
         CompiledProgram x = new CompiledProgram();
         byte[] bytes = Check.bytesOf(additions(1270));
         for (int call = 1; call <= 508; call++) {
@@ -58,7 +64,6 @@ public final class EdgesOfTapeTest {
 
     /** No 512 calls fill a tape: the class keeps the limit beyond them, as the document tells it. */
     private static void tapeOfAtMost32768() {
-        Check.sentence("THE TAPE is a row of bytes, at most 32,768");
         CompiledProgram x = typed(32748);
         Check.same("a feed to 32768", x.feed(0, 0, 0, 0, 0), 32768);
         Check.fails("a feed on a full tape", IllegalStateException.class, () -> x.feed(0, 0, 0, 0, 0));
@@ -68,7 +73,6 @@ public final class EdgesOfTapeTest {
     }
 
     private static void typedTwentyAtATimeAndCut() {
-        Check.sentence("that is typed twenty at a time, and cut");
         CompiledProgram x = new CompiledProgram();
         Check.same("the first feed", x.feed(0, 0, 0, 0, 0), 20);
         x.end(7);
@@ -79,14 +83,12 @@ public final class EdgesOfTapeTest {
     }
 
     private static void loadUsesTheTapeUp() {
-        Check.sentence("load() uses it up");
         CompiledProgram x = Check.with(Check.EXIT);
         Check.same("a second load() of one tape", x.load(), 0);
         Check.same("places() behind it", x.places(), 0);
     }
 
     private static void programOfAtMost4096() {
-        Check.sentence("A PROGRAM is a row of PLACES 0, 1, .., 8 bytes each, at most 4,096");
         CompiledProgram x = new CompiledProgram();
         byte[] bytes = Check.bytesOf(additions(4096));
         Check.type(x, bytes, 32748);
@@ -97,7 +99,6 @@ public final class EdgesOfTapeTest {
     }
 
     private static void fourBitsEach() {
-        Check.sentence("byte 1: its lowest four bits d, its highest four s");
         CompiledProgram x = new CompiledProgram();
         x.feed(0xbfa90000, 0, 0x95000000, 0, 0);
         x.end(16);
@@ -108,7 +109,6 @@ public final class EdgesOfTapeTest {
     }
 
     private static void offsetsWithSign() {
-        Check.sentence("bytes 2 and 3 the OFFSET o, both with sign, lowest byte first");
         int[] typed = {0x0000, 0x0100, 0x0001, 0xff7f, 0x0080, 0xffff, 0xff00, 0x00ff};
         int[] offsets = {0, 1, 256, 32767, -32768, -1, 255, -256};
         for (int k = 0; k < typed.length; k++) {
@@ -124,7 +124,6 @@ public final class EdgesOfTapeTest {
     }
 
     private static void immediatesWithSign() {
-        Check.sentence("bytes 4 to 7 the IMMEDIATE i, both with sign, lowest byte first");
         int[] typed = {0, 0x01000000, 1, 0xffffff7f, 0x00000080, 0xffffffff, 0x00010000, 0x00000100};
         int[] immediates = {0, 1, 1 << 24, Integer.MAX_VALUE, Integer.MIN_VALUE, -1, 256, 65536};
         for (int k = 0; k < typed.length; k++) {
@@ -138,7 +137,6 @@ public final class EdgesOfTapeTest {
     }
 
     private static void highestByteFirst() {
-        Check.sentence("Twenty bytes more on the TAPE, those of a first, the highest byte of each first");
         CompiledProgram x = new CompiledProgram();
         x.feed(0xb7010000, 0x11223344, 0xb7020000, 0x85868788, 0xb7030000);
         x.feed(0x99aabbcc, 0xb7040000, 0xff000180, 0x95000000, 0x00000000);
@@ -151,7 +149,6 @@ public final class EdgesOfTapeTest {
     }
 
     private static void feedTellsHowManyThen() {
-        Check.sentence("how many it has then");
         CompiledProgram x = new CompiledProgram();
         for (int k = 1; k <= 500; k++) {
             Check.same("feed number " + k, x.feed(-1, -1, -1, -1, -1), 20 * k);
@@ -160,7 +157,6 @@ public final class EdgesOfTapeTest {
     }
 
     private static void feedWithoutRoom() {
-        Check.sentence("int feed(..) throws IllegalStateException: no room on the TAPE");
         for (int room = 0; room < 20; room++) {
             CompiledProgram x = typed(32748);
             x.feed(0, 0, 0, 0, 0);
@@ -171,7 +167,6 @@ public final class EdgesOfTapeTest {
     }
 
     private static void cutBehindN() {
-        Check.sentence("The TAPE is cut behind its first n bytes.");
         CompiledProgram x = new CompiledProgram();
         x.end(0);
         Check.hasTyped("an empty tape cut behind 0", x, 0);
@@ -187,7 +182,6 @@ public final class EdgesOfTapeTest {
     }
 
     private static void endBelowZero() {
-        Check.sentence("IllegalArgumentException: n is below 0");
         for (int typed : new int[] {0, 20}) {
             CompiledProgram x = typed(typed);
             Check.fails("end(-1)", IllegalArgumentException.class, () -> x.end(-1));
@@ -197,7 +191,6 @@ public final class EdgesOfTapeTest {
     }
 
     private static void endOfMoreThanItHas() {
-        Check.sentence("or more than it has");
         for (int typed : new int[] {0, 1, 19, 20, 40, 512, 1000}) {
             CompiledProgram x = typed(typed);
             Check.fails("end(" + (typed + 1) + ")", IllegalArgumentException.class, () -> x.end(typed + 1));
@@ -210,7 +203,6 @@ public final class EdgesOfTapeTest {
     }
 
     private static void loadOfARightOne() {
-        Check.sentence("The TAPE becomes the program (NONE; registers, memory, and what the latest run told stay)");
         CompiledProgram x = ranOnce();
         Check.same("load() of another", Check.load(x, Check.EXIT, Check.EXIT, Check.EXIT), NONE);
         Check.same("places()", x.places(), 3);
@@ -219,12 +211,15 @@ public final class EdgesOfTapeTest {
     }
 
     private static void loadOfAWrongOne() {
-        Check.sentence("or is refused (the first wrong place; there is no program then, not the one before either)");
         CompiledProgram x = ranOnce();
         Check.same("load() of a wrong one", Check.load(x, Check.EXIT, WRONG, WRONG), 1);
         Check.same("places()", x.places(), 0);
         Check.fails("run(1)", IllegalStateException.class, () -> x.run(1));
-        Check.sentence("(Registers, memory, and what the latest run told, stay.)");
+    }
+
+    private static void allElseStaysBehindAWrongOne() {
+        CompiledProgram x = ranOnce();
+        Check.load(x, Check.EXIT, WRONG, WRONG);
         isAsItRan("behind a refused load()", x);
     }
 
@@ -244,7 +239,6 @@ public final class EdgesOfTapeTest {
     }
 
     private static void theTapeIsEmptyThen() {
-        Check.sentence("the TAPE is empty then");
         CompiledProgram x = Check.with(Check.EXIT);
         Check.hasTyped("behind a right load()", x, 0);
         Check.load(x, WRONG);
@@ -259,7 +253,6 @@ public final class EdgesOfTapeTest {
     }
 
     private static void placesOfAProgram() {
-        Check.sentence("How many places the program has");
         CompiledProgram x = Check.with(Check.EXIT);
         Check.same("places() of the shortest", x.places(), 1);
         x.feed(0, 0, 0, 0, 0);
@@ -272,7 +265,6 @@ public final class EdgesOfTapeTest {
     }
 
     private static void placesWithoutAProgram() {
-        Check.sentence("0 without one");
         CompiledProgram x = new CompiledProgram();
         Check.same("places() of a new object", x.places(), 0);
         x.feed(0x95000000, 0, 0, 0, 0);
