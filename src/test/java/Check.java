@@ -44,6 +44,18 @@ final class Check {
         }
     }
 
+    static void same(String what, String got, String due) {
+        if (!got.equals(due)) {
+            isWrong(what + " answered " + got + ", due is " + due);
+        }
+    }
+
+    static void holds(String what, boolean so) {
+        if (!so) {
+            isWrong("it does not hold that " + what);
+        }
+    }
+
     /** A test of many inputs may find thousands wrong: the first ones tell enough. */
     private static void isWrong(String what) {
         wrong++;

@@ -1,5 +1,6 @@
 import java.lang.reflect.Constructor;
 import java.lang.reflect.Field;
+import java.lang.reflect.Member;
 import java.lang.reflect.Method;
 import java.lang.reflect.Modifier;
 import java.util.Arrays;
@@ -7,10 +8,30 @@ import java.util.TreeSet;
 
 /** Promise 1, the constants, and that the face has nothing but what the document names. */
 public final class FaceTest {
+    private static final String[] HEADS = {
+        "public static final int NONE",
+        "public static final int EXIT",
+        "public static final int FUEL",
+        "public static final int TRAP",
+        "public CompiledProgram()",
+        "public int feed(int,int,int,int,int) throws IllegalStateException",
+        "public void end(int) throws IllegalArgumentException",
+        "public int load()",
+        "public int places()",
+        "public void set(int,long) throws IndexOutOfBoundsException",
+        "public long get(int) throws IndexOutOfBoundsException",
+        "public void put(long,long) throws IndexOutOfBoundsException",
+        "public long word(long) throws IndexOutOfBoundsException",
+        "public int run(int) throws IllegalArgumentException,IllegalStateException",
+        "public int place()",
+        "public int steps()"
+    };
+
     public static void main(String[] args) {
         constants();
         newObject();
-        noOtherMember();
+        heads();
+        classesInside();
         objectsAreApart();
         Check.finish();
     }
@@ -39,28 +60,58 @@ public final class FaceTest {
         Check.same("the first feed", x.feed(0, 0, 0, 0, 0), 20);
     }
 
-    private static void noOtherMember() {
+    /** The heads as Java tells them: with public, static, final and throws, and in any order. */
+    private static void heads() {
         TreeSet<String> found = new TreeSet<>();
         for (Method m : CompiledProgram.class.getDeclaredMethods()) {
-            if (!Modifier.isPrivate(m.getModifiers())) {
-                found.add(m.getReturnType() + " " + m.getName() + Arrays.toString(m.getParameterTypes()));
-            }
+            addUnlessPrivate(found, m);
         }
         for (Field f : CompiledProgram.class.getDeclaredFields()) {
-            if (!Modifier.isPrivate(f.getModifiers())) {
-                found.add(f.getType() + " " + f.getName());
+            addUnlessPrivate(found, f);
+        }
+        for (Constructor<?> c : CompiledProgram.class.getDeclaredConstructors()) {
+            addUnlessPrivate(found, c);
+        }
+        TreeSet<String> due = new TreeSet<>(Arrays.asList(HEADS));
+        for (String head : due) {
+            Check.holds("the face has " + head, found.contains(head));
+        }
+        for (String head : found) {
+            Check.holds("the document has " + head, due.contains(head));
+        }
+        Check.same("how many constructors", CompiledProgram.class.getDeclaredConstructors().length, 1);
+        int flags = CompiledProgram.class.getModifiers();
+        Check.holds("the class is public and final", Modifier.isPublic(flags) && Modifier.isFinal(flags));
+    }
+
+    private static void addUnlessPrivate(TreeSet<String> heads, Member m) {
+        if (!Modifier.isPrivate(m.getModifiers())) {
+            heads.add(m.toString().replace("CompiledProgram.", "").replace("java.lang.", ""));
+        }
+    }
+
+    /** LANGUAGE.md, rule 1. */
+    private static void classesInside() {
+        TreeSet<String> publicNames = new TreeSet<>();
+        for (Method m : CompiledProgram.class.getMethods()) {
+            if (m.getDeclaringClass() == CompiledProgram.class) {
+                publicNames.add(m.getName());
             }
         }
-        TreeSet<String> due = new TreeSet<>(Arrays.asList(
-            "int NONE", "int EXIT", "int FUEL", "int TRAP", "int feed[int, int, int, int, int]", "void end[int]",
-            "int load[]", "int places[]", "void set[int, long]", "long get[int]", "void put[long, long]",
-            "long word[long]", "int run[int]", "int place[]", "int steps[]"));
-        Check.same("the face " + found + " is as the document says", found.equals(due) ? 1 : 0, 1);
-        Constructor<?>[] made = CompiledProgram.class.getDeclaredConstructors();
-        Check.same("how many constructors", made.length, 1);
-        Check.same("parameters of the constructor", made[0].getParameterCount(), 0);
-        int flags = CompiledProgram.class.getModifiers();
-        Check.same("public and final", Modifier.isPublic(flags) && Modifier.isFinal(flags) ? 1 : 0, 1);
+        hidesNoName(CompiledProgram.class, publicNames);
+        for (Class<?> inside : CompiledProgram.class.getDeclaredClasses()) {
+            int flags = inside.getModifiers();
+            boolean seen = Modifier.isPublic(flags) || Modifier.isProtected(flags);
+            Check.holds(inside + " is static and not seen", Modifier.isStatic(flags) && !seen);
+            hidesNoName(inside, publicNames);
+        }
+    }
+
+    private static void hidesNoName(Class<?> c, TreeSet<String> publicNames) {
+        for (Method m : c.getDeclaredMethods()) {
+            boolean hides = Modifier.isPrivate(m.getModifiers()) && publicNames.contains(m.getName());
+            Check.holds(m + " does not bear the name of a public one", !hides);
+        }
     }
 
     private static void objectsAreApart() {

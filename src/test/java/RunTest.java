@@ -82,7 +82,7 @@ public final class RunTest {
                 loaded += anyCall(x, random);
             }
         }
-        Check.same("some programs were loaded", loaded > 1000 ? 1 : 0, 1);
+        Check.holds("some programs were loaded", loaded > 1000);
     }
 
     private static int anyCall(CompiledProgram x, Random random) {
@@ -101,7 +101,7 @@ public final class RunTest {
         } catch (IllegalStateException | IllegalArgumentException e) {
             return 0;
         } catch (IndexOutOfBoundsException e) {
-            Check.same("no index of an array", e.getClass() == IndexOutOfBoundsException.class ? 1 : 0, 1);
+            Check.holds("no index of an array", e.getClass() == IndexOutOfBoundsException.class);
         }
         return 0;
     }
@@ -110,8 +110,8 @@ public final class RunTest {
         int ending = x.run(fuel);
         boolean fits = ending == CompiledProgram.FUEL ? x.steps() == fuel
             : ending == CompiledProgram.EXIT ? x.steps() >= 1 && x.steps() <= fuel : x.steps() < fuel;
-        Check.same("steps() fit the ending", fits ? 1 : 0, 1);
-        Check.same("place() is in the program", x.place() >= 0 && x.place() < x.places() ? 1 : 0, 1);
+        Check.holds("steps() fit the ending", fits);
+        Check.holds("place() is in the program", x.place() >= 0 && x.place() < x.places());
     }
 
     private static long anyNumber(Random random) {
